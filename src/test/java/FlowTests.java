@@ -38,6 +38,7 @@ public final class FlowTests {
             all.append("come ").append(h).append(" 2;");
         }
         flow(all.toString(), 6, 0, 3, 0, 48, 11);
+        flow(all + "need 2;", 2, 0, 1, 0, 48, 11);
         GriefTram x = Check.with(Check.FLOW, "come 0 99;come 23 98;");
         CHECK.due("hour 0", x.flow(0, 10), 99);
         CHECK.due("hour 1", x.flow(0, 11), 0);

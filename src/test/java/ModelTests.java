@@ -8,6 +8,12 @@ import java.util.Random;
 public final class ModelTests {
     private static final Check CHECK = new Check("ModelTests");
     private static final int NONE = GriefTram.NONE;
+    private static final int IT = 1;
+    private static final String[] OTHERS = {
+        "hill 7;hill 8;rider shame 9;rider love 2;rider loss 5;rider loss 5;rider false 6;seats 5;wear loss 4;fare 1 6;",
+        "board 0 1;go;share;board 1 0;joke 2;off 1;back;",
+        "need 3;come 1 2;come 4 9;come 11 30;come 23 1;",
+        "many 4;climbed 15 20;stalled 3 17;"};
     private static final Random RANDOM = new Random(20261118);
 
     public static void main(String[] args) {
@@ -27,6 +33,19 @@ public final class ModelTests {
             sights();
         }
         CHECK.end();
+    }
+
+    /** Texts of others come before it and behind it, so that nothing of theirs may be left in its answers. */
+    private static void tellAmidOthers(GriefTram x, int sort, String text) {
+        String other = OTHERS[sort];
+        Check.tell(x, sort, other);
+        if (sort == Check.SIGHT) {
+            x.fits(0, 0);
+        }
+        if (Check.tell(x, sort, text) != IT) {
+            throw new IllegalStateException(text);
+        }
+        Check.tellAt(x, sort, other, 0);
     }
 
     private static int upTo(int n) {
@@ -123,7 +142,8 @@ public final class ModelTests {
 
     private static void lineAndSets(boolean mild) {
         String text = lineText(mild);
-        GriefTram x = Check.withLine(text);
+        GriefTram x = new GriefTram();
+        tellAmidOthers(x, Check.LINE, text);
         Model.Line line = new Model.Line(Model.read(0, text));
         lineItself(text, x, line);
         allSets(text, x, line);
@@ -149,9 +169,9 @@ public final class ModelTests {
                     }
                     loop = first(line, from, to, line.fares[loop - from]);
                 }
-                CHECK.due("fare 0 of " + text, x.fare(0, from, to, 0), can ? ways.get(0)[0] : NONE);
-                CHECK.due("fare 1 of " + text, x.fare(0, from, to, 1), can ? ways.get(0)[1] : NONE);
-                CHECK.due("fare 2 of " + text, x.fare(0, from, to, 2), can ? loop : NONE);
+                CHECK.due("fare 0 of " + text, x.fare(IT, from, to, 0), can ? ways.get(0)[0] : NONE);
+                CHECK.due("fare 1 of " + text, x.fare(IT, from, to, 1), can ? ways.get(0)[1] : NONE);
+                CHECK.due("fare 2 of " + text, x.fare(IT, from, to, 2), can ? loop : NONE);
             }
         }
         List<Integer> route = new ArrayList<>();
@@ -160,7 +180,7 @@ public final class ModelTests {
         }
         route.sort(Comparator.comparing((Integer k) -> -line.hills.get(k)).thenComparing(k -> k));
         for (int k = 0; k < hills; k++) {
-            CHECK.due("route " + k + " of " + text, x.route(0, k), route.get(k));
+            CHECK.due("route " + k + " of " + text, x.route(IT, k), route.get(k));
         }
     }
 
@@ -175,13 +195,13 @@ public final class ModelTests {
 
     private static void allSets(String text, GriefTram x, Model.Line line) {
         int light = line.bestUp(true);
-        CHECK.due("few of " + text, x.up(0, 0), line.bestUp(false));
-        CHECK.due("light of " + text, x.up(0, 1), light);
-        CHECK.due("its ounces of " + text, x.up(0, 2), light < 0 ? NONE : line.sum(light));
+        CHECK.due("few of " + text, x.up(IT, 0), line.bestUp(false));
+        CHECK.due("light of " + text, x.up(IT, 1), light);
+        CHECK.due("its ounces of " + text, x.up(IT, 2), light < 0 ? NONE : line.sum(light));
         if (line.riders() <= 7) {
-            CHECK.due("trams of " + text, x.up(0, 3), line.trams(0, new ArrayList<>()));
+            CHECK.due("trams of " + text, x.up(IT, 3), line.trams(0, new ArrayList<>()));
         }
-        CHECK.due("needed of " + text, x.up(0, 4), line.needed());
+        CHECK.due("needed of " + text, x.up(IT, 4), line.needed());
         int many = 0;
         int[] stalled = new int[9];
         int half = NONE;
@@ -202,11 +222,11 @@ public final class ModelTests {
         for (int k = line.hills.size() - 1; k >= 0; k--) {
             worst = stalled[k] > 0 && (worst < 0 || stalled[k] >= stalled[worst]) ? k : worst;
         }
-        CHECK.due("many of " + text, x.sets(0, 0), many);
-        CHECK.due("worst of " + text, x.sets(0, 1), worst);
-        CHECK.due("at worst of " + text, x.sets(0, 2), worst < 0 ? NONE : stalled[worst]);
-        CHECK.due("half of " + text, x.halves(0, true), half);
-        CHECK.due("difference of " + text, x.halves(0, false), difference);
+        CHECK.due("many of " + text, x.sets(IT, 0), many);
+        CHECK.due("worst of " + text, x.sets(IT, 1), worst);
+        CHECK.due("at worst of " + text, x.sets(IT, 2), worst < 0 ? NONE : stalled[worst]);
+        CHECK.due("half of " + text, x.halves(IT, true), half);
+        CHECK.due("difference of " + text, x.halves(IT, false), difference);
         for (int k = -1; k <= line.hills.size(); k++) {
             int best = NONE;
             for (int set = all; set >= 0 && k >= 0 && k < line.hills.size(); set--) {
@@ -215,7 +235,7 @@ public final class ModelTests {
                     best = set;
                 }
             }
-            CHECK.due("against " + k + " of " + text, x.against(0, k), best);
+            CHECK.due("against " + k + " of " + text, x.against(IT, k), best);
         }
     }
 
@@ -227,13 +247,13 @@ public final class ModelTests {
         for (int from = -1; from <= line.hills.size() + 1; from++) {
             boolean can = there && from >= 0 && from <= line.hills.size();
             int want = can ? line.comes(set, from, line.first(), line.hills) : NONE;
-            CHECK.due("comes from " + from + of, x.comes(0, set, from), want);
+            CHECK.due("comes from " + from + of, x.comes(IT, set, from), want);
         }
         left(of, x, line, set);
-        CHECK.due("rounds" + of, x.rounds(0, set), seated ? line.turns(set) : NONE);
+        CHECK.due("rounds" + of, x.rounds(IT, set), seated ? line.turns(set) : NONE);
         int other = (there ? ~set : 0) & upTo((1 << line.riders()) - 1);
         boolean two = seated && line.seated(other);
-        CHECK.due("turns with " + other + of, x.byTurns(0, set, other), two ? line.turns(set, other) : NONE);
+        CHECK.due("turns with " + other + of, x.byTurns(IT, set, other), two ? line.turns(set, other) : NONE);
         int plea = NONE;
         int news = NONE;
         int spared = up ? 0 : NONE;
@@ -244,12 +264,12 @@ public final class ModelTests {
         for (int r = 0; r < line.riders(); r++) {
             spared |= up && (set >> r & 1) == 1 && line.up(set - (1 << r)) ? 1 << r : 0;
         }
-        CHECK.due("plea" + of, x.plea(0, set), plea);
-        CHECK.due("news" + of, x.news(0, set), news);
-        CHECK.due("spared" + of, x.spared(0, set), spared);
+        CHECK.due("plea" + of, x.plea(IT, set), plea);
+        CHECK.due("news" + of, x.news(IT, set), news);
+        CHECK.due("spared" + of, x.spared(IT, set), spared);
         slack(of, x, line, set);
         if (line.hills.size() <= 5) {
-            CHECK.due("orders" + of, x.orders(0, set), seated ? line.orders(set) : NONE);
+            CHECK.due("orders" + of, x.orders(IT, set), seated ? line.orders(set) : NONE);
         }
         calm(of, x, line, set);
         List<Integer> couples = new ArrayList<>();
@@ -258,8 +278,8 @@ public final class ModelTests {
         }
         int least = couples.isEmpty() ? NONE : Collections.min(couples);
         int ways = couples.isEmpty() ? NONE : Collections.frequency(couples, least);
-        CHECK.due("couples" + of, x.couples(0, set, false), least);
-        CHECK.due("ways of couples" + of, x.couples(0, set, true), ways);
+        CHECK.due("couples" + of, x.couples(IT, set, false), least);
+        CHECK.due("ways of couples" + of, x.couples(IT, set, true), ways);
     }
 
     private static void left(String of, GriefTram x, Model.Line line, int set) {
@@ -272,10 +292,10 @@ public final class ModelTests {
             boolean in = line.there(set) && r >= 0 && (set >> r & 1) == 1;
             last = in && (last < 0 || has[r] <= has[last]) ? r : last;
             if (r != NONE) {
-                CHECK.due("bears " + r + of, x.bears(0, set, r), in ? has[r] : -2);
+                CHECK.due("bears " + r + of, x.bears(IT, set, r), in ? has[r] : -2);
             }
         }
-        CHECK.due("last" + of, x.bears(0, set, NONE), line.there(set) ? last : -2);
+        CHECK.due("last" + of, x.bears(IT, set, NONE), line.there(set) ? last : -2);
     }
 
     private static void slack(String of, GriefTram x, Model.Line line, int set) {
@@ -290,19 +310,19 @@ public final class ModelTests {
             }
             line.wearOff(set, has);
         }
-        CHECK.due("slack" + of, x.slack(0, set, false), least);
-        CHECK.due("hill of slack" + of, x.slack(0, set, true), at);
+        CHECK.due("slack" + of, x.slack(IT, set, false), least);
+        CHECK.due("hill of slack" + of, x.slack(IT, set, true), at);
     }
 
     private static void calm(String of, GriefTram x, Model.Line line, int set) {
         int k = upTo(9);
         boolean can = line.seated(set) && set != 0;
         List<Integer> want = can ? line.calm(set, k) : List.of(NONE, NONE);
-        CHECK.due("calm " + k + of, x.calm(0, set, k, 0), want.get(0));
-        CHECK.due("ways of calm " + k + of, x.calm(0, set, k, 1), want.get(1));
+        CHECK.due("calm " + k + of, x.calm(IT, set, k, 0), want.get(0));
+        CHECK.due("ways of calm " + k + of, x.calm(IT, set, k, 1), want.get(1));
         for (int s = 0; s < 7; s++) {
             int due = s + 2 < want.size() ? want.get(s + 2) : NONE;
-            CHECK.due("seat " + s + " of calm " + k + of, x.calm(0, set, k, 10 + s), due);
+            CHECK.due("seat " + s + " of calm " + k + of, x.calm(IT, set, k, 10 + s), due);
         }
     }
 
@@ -310,7 +330,8 @@ public final class ModelTests {
 
     private static void rides() {
         String text = lineText(true);
-        GriefTram x = Check.withLine(text);
+        GriefTram x = new GriefTram();
+        tellAmidOthers(x, Check.LINE, text);
         Model.Line line = new Model.Line(Model.read(0, text));
         StringBuilder rideText = new StringBuilder();
         Model.Tram tram = new Model.Tram(line);
@@ -322,9 +343,7 @@ public final class ModelTests {
             }
             rideText.append(String.join(" ", row)).append(';');
         }
-        if (Check.tell(x, 1, rideText.toString()) != 0) {
-            throw new IllegalStateException(rideText.toString());
-        }
+        tellAmidOthers(x, Check.RIDE, rideText.toString());
         List<String[]> rows = Model.read(1, rideText.toString()).rows;
         int done = 0;
         states(text + rideText, tram, x, 0);
@@ -332,8 +351,8 @@ public final class ModelTests {
             done++;
             states(text + rideText, tram, x, done);
         }
-        CHECK.due("stop of " + text + rideText, x.stop(0, 0), done);
-        CHECK.due("behind stop of " + text + rideText, x.state(0, 0, done + 1, 0), -2);
+        CHECK.due("stop of " + text + rideText, x.stop(IT, IT), done);
+        CHECK.due("behind stop of " + text + rideText, x.state(IT, IT, done + 1, 0), -2);
         int seed = RANDOM.nextInt();
         for (int n = 0; n <= 60; n += 1 + upTo(9)) {
             Model.Tram drawn = new Model.Tram(line);
@@ -342,7 +361,7 @@ public final class ModelTests {
             }
             for (int what = -1; what < 42; what++) {
                 int want = line.riders() == 0 ? -2 : drawn.answer(what);
-                CHECK.due("drawn " + seed + " " + n + " " + what + " of " + text, x.drawn(0, seed, n, what), want);
+                CHECK.due("drawn " + seed + " " + n + " " + what + " of " + text, x.drawn(IT, seed, n, what), want);
             }
         }
     }
@@ -367,7 +386,7 @@ public final class ModelTests {
 
     private static void states(String text, Model.Tram tram, GriefTram x, int n) {
         for (int what = -1; what < 42; what++) {
-            CHECK.due("state " + n + " " + what + " of " + text, x.state(0, 0, n, what), tram.answer(what));
+            CHECK.due("state " + n + " " + what + " of " + text, x.state(IT, IT, n, what), tram.answer(what));
         }
     }
 
@@ -384,13 +403,14 @@ public final class ModelTests {
             left -= n;
             text.append("come ").append(upTo(23)).append(' ').append(n).append(';');
         }
-        GriefTram x = Check.with(Check.FLOW, text.toString());
+        GriefTram x = new GriefTram();
+        tellAmidOthers(x, Check.FLOW, text.toString());
         Model.Flow flow = new Model.Flow(Model.read(2, text.toString()));
         List<Integer> want = flow.leaves();
-        CHECK.due("most of " + text, x.leaves(0, 0), want.get(0));
-        CHECK.due("wait of " + text, x.leaves(0, 1), want.get(1));
+        CHECK.due("most of " + text, x.leaves(IT, 0), want.get(0));
+        CHECK.due("wait of " + text, x.leaves(IT, 1), want.get(1));
         for (int k = 0; k < 25; k++) {
-            CHECK.due("hour " + k + " of " + text, x.leaves(0, 10 + k), k + 2 < want.size() ? want.get(k + 2) : NONE);
+            CHECK.due("hour " + k + " of " + text, x.leaves(IT, 10 + k), k + 2 < want.size() ? want.get(k + 2) : NONE);
         }
         int rush = 23;
         int day = 0;
@@ -418,7 +438,7 @@ public final class ModelTests {
         }
         int[] due = {flow.need, rush, steady, lull, day, half};
         for (int what = 0; what < 6; what++) {
-            CHECK.due("flow " + what + " of " + text, x.flow(0, what), due[what]);
+            CHECK.due("flow " + what + " of " + text, x.flow(IT, what), due[what]);
         }
     }
 
@@ -437,13 +457,14 @@ public final class ModelTests {
             boolean climbed = upTo(30) == 0 ? upTo(1) == 0 : sum >= hill;
             text.append(climbed ? "climbed " : "stalled ").append(set).append(' ').append(hill).append(';');
         }
-        GriefTram x = Check.with(Check.SIGHT, text.toString());
+        GriefTram x = new GriefTram();
+        tellAmidOthers(x, Check.SIGHT, text.toString());
         int[] want = Model.fits(Model.read(3, text.toString()));
-        CHECK.due("fits of " + text, x.fits(0, 0), want[0]);
-        CHECK.due("ask of " + text, x.fits(0, 1), want[1]);
+        CHECK.due("fits of " + text, x.fits(IT, 0), want[0]);
+        CHECK.due("ask of " + text, x.fits(IT, 1), want[1]);
         for (int s = 0; s < 5; s++) {
-            CHECK.due("least " + s + " of " + text, x.fits(0, 10 + s), s < many ? want[2 + s] : -2);
-            CHECK.due("most " + s + " of " + text, x.fits(0, 20 + s), s < many ? want[2 + many + s] : -2);
+            CHECK.due("least " + s + " of " + text, x.fits(IT, 10 + s), s < many ? want[2 + s] : -2);
+            CHECK.due("most " + s + " of " + text, x.fits(IT, 20 + s), s < many ? want[2 + many + s] : -2);
         }
     }
 }

@@ -125,6 +125,8 @@ public final class SetTests {
         CHECK.due("one", x.couples(0, 1, true), NONE);
         CHECK.due("none", x.couples(0, 0, false), NONE);
         CHECK.due("not there", x.couples(0, 33, false), NONE);
+        CHECK.due("not there", x.couples(0, 33, true), NONE);
+        CHECK.due("far from there", x.couples(0, 1 | 1 << 20, true), NONE);
         CHECK.due("below 0", x.couples(0, -2, false), NONE);
         CHECK.due("no line", x.couples(1, 3, false), NONE);
         GriefTram eight = Check.withLine("rider loss 3;".repeat(8));

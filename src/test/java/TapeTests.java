@@ -242,6 +242,15 @@ public final class TapeTests {
         Check.tell(x, 3, "many 3;many 1;climbed 1 2;climbed 1 3;");
         CHECK.due("many", x.fact(0, NONE, 0), 1);
         CHECK.due("facts", x.fact(0, NONE, 1), 2);
+        Check.tell(x, 0, "rider loss 1;rider loss 2;");
+        CHECK.due("riders", x.line(1, 2), 2);
+        CHECK.due("no hills of the former line", x.line(1, 0), 0);
+        Check.tellAt(x, 0, "rider loss 1;", 1);
+        CHECK.due("no riders of the former text", x.line(1, 2), 1);
+        Check.tell(x, 2, "");
+        CHECK.due("nothing of the former flow", x.flow(1, 15), 0);
+        Check.tell(x, 3, "");
+        CHECK.due("no facts of the former sight", x.fact(1, NONE, 1), 0);
         CHECK.due("a text in place begins anew", Check.tellAt(x, 0, "hill 9;", 0), 0);
         CHECK.due("seats at first", x.line(0, 1), 4);
         CHECK.due("wear at first", x.line(0, 41), 1);
@@ -282,6 +291,9 @@ public final class TapeTests {
         CHECK.due("need again", x.flow(0, 0), 5);
         CHECK.due("sights again", x.count(3), 1);
         CHECK.due("fits again", x.fits(0, 0), 6);
+        CHECK.due("ask again", x.fits(0, 1), 47);
+        CHECK.due("least again", x.fits(0, 10), 4);
+        CHECK.due("most again", x.fits(0, 20), 9);
         CHECK.due("tape again", x.text(0, NONE), 1);
         CHECK.due("its hill", x.line(1, 10), 3);
         CHECK.due("again 0 once more", x.again(0), true);
