@@ -542,7 +542,8 @@ public final class GriefTram {
 
         /** What he has left behind one more hill. */
         int wornOf(int rider, int ouncesThen) {
-            return Math.max(0, ouncesThen - wear[kinds[rider]]);
+            int worn = wear[kinds[rider]];
+            return ouncesThen > worn ? ouncesThen - worn : 0;
         }
 
         int ouncesOf(int set) {

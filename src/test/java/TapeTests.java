@@ -262,8 +262,8 @@ public final class TapeTests {
         GriefTram x = Check.withLine("hill 1;rider loss 9;");
         Check.tell(x, 1, "board 0 0;go;");
         Check.tell(x, 2, "need 5;");
-        Check.tell(x, 3, "many 1;climbed 1 4;");
-        CHECK.due("fits", x.fits(0, 0), 6);
+        Check.tell(x, 3, "many 1;climbed 1 4;stalled 1 8;");
+        CHECK.due("fits", x.fits(0, 0), 4);
         Check.tell(x, 0, "seats 0;");
         Check.tape(x, "hill 3;");
         CHECK.due("image -1", x.image(-1), false);
@@ -290,10 +290,10 @@ public final class TapeTests {
         CHECK.due("deeds again", x.deed(0, NONE, 0), 2);
         CHECK.due("need again", x.flow(0, 0), 5);
         CHECK.due("sights again", x.count(3), 1);
-        CHECK.due("fits again", x.fits(0, 0), 6);
-        CHECK.due("ask again", x.fits(0, 1), 47);
+        CHECK.due("fits again", x.fits(0, 0), 4);
+        CHECK.due("ask again", x.fits(0, 1), 46);
         CHECK.due("least again", x.fits(0, 10), 4);
-        CHECK.due("most again", x.fits(0, 20), 9);
+        CHECK.due("most again", x.fits(0, 20), 7);
         CHECK.due("tape again", x.text(0, NONE), 1);
         CHECK.due("its hill", x.line(1, 10), 3);
         CHECK.due("again 0 once more", x.again(0), true);
