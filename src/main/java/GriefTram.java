@@ -80,13 +80,14 @@ public final class GriefTram {
     }
 
     public int text(int sort, int at) {
+        int length = told.length;
+        told.length = 0;
         told.fault = 0;
         told.place = NONE;
         if (!told.takesText(sort, at)) {
             return REFUSED;
         }
-        reader.read(told.tape, told.length, sort);
-        told.length = 0;
+        reader.read(told.tape, length, sort);
         told.fault = reader.fault;
         told.place = reader.place;
         if (reader.fault != 0) {

@@ -7,6 +7,7 @@ public final class TapeTests {
         newObject();
         feedAndEnd();
         textNumbers();
+        tapeIsTakenAlways();
         faultOnes();
         faultTwos();
         faultThrees();
@@ -100,9 +101,37 @@ public final class TapeTests {
         CHECK.due("none such", y.text(0, 5), -2);
         CHECK.due("fault 0 then", y.fault(0), 0);
         CHECK.due("no place then", y.fault(1), NONE);
-        CHECK.due("no text was read", y.end(7), 7);
-        CHECK.due("so it can be now", y.text(0, 0), 0);
-        CHECK.due("hill 9", y.line(0, 10), 9);
+        CHECK.due("no text was read", y.line(0, 10), 7);
+    }
+
+    /** The tape is taken, and is empty then, whatever text() answers. */
+    private static void tapeIsTakenAlways() {
+        for (int sort = 0; sort < 4; sort++) {
+            GriefTram x = new GriefTram();
+            taken("further " + sort, x, sort, NONE, "", 0);
+            taken("with a fault " + sort, x, sort, NONE, "!", NONE);
+            taken("none such " + sort, x, sort, 1, "", -2);
+            taken("none such with a fault in it " + sort, x, sort, -2, "!", -2);
+            taken("in the place of one " + sort, x, sort, 0, "", 0);
+            taken("second " + sort, x, sort, NONE, "", 1);
+            taken("as many as may be " + sort, x, sort, NONE, "", -2);
+            CHECK.due("none further " + sort, x.count(sort), 2);
+        }
+        GriefTram y = Check.withLine("hill 7;");
+        for (int sort : new int[] {-2, -1, 4, Integer.MIN_VALUE, Integer.MAX_VALUE}) {
+            taken("no such sort " + sort, y, sort, NONE, "hill 9;", -2);
+            taken("no such sort, in a place " + sort, y, sort, 0, "hill 9;", -2);
+        }
+        CHECK.due("a text that was not read is nowhere", y.text(0, 0), 0);
+        CHECK.due("an empty line then", y.line(0, 0), 0);
+    }
+
+    private static void taken(String of, GriefTram x, int sort, int at, String more, int answer) {
+        Check.tape(x, more + "    ");
+        CHECK.due("text: " + of, x.text(sort, at), answer);
+        CHECK.due("nothing is left: " + of, x.end(1), NONE);
+        CHECK.due("the tape begins anew: " + of, x.feed(0, 0, 0, 0, 0), 20);
+        CHECK.due("cut again: " + of, x.end(0), 0);
     }
 
     private static void faulty(int sort, String text, int fault, int place) {
