@@ -8,6 +8,7 @@ final class Check {
     static final int SIGHT = 3;
 
     private final String name;
+    private String sentence = "";
     private int wrong;
     private int asked;
 
@@ -15,12 +16,17 @@ final class Check {
         this.name = name;
     }
 
+    /** The document's sentence that the answers from here on are due by. */
+    void by(String words) {
+        sentence = " [" + words + "]";
+    }
+
     void due(String call, long got, long want) {
         asked++;
         if (got != want) {
             wrong++;
             if (wrong <= 40) {
-                System.out.println(name + ": " + call + " answered " + got + ", due is " + want);
+                System.out.println(name + ": " + call + " answered " + got + ", due is " + want + sentence);
             }
         }
     }
