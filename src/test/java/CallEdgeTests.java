@@ -1,12 +1,9 @@
-import java.util.function.IntUnaryOperator;
-
 /** The edges that promises 1 to 7 and 32 to 34 name: the tape, texts, what is told, images. */
 public final class CallEdgeTests {
     private static final Check CHECK = new Check("CallEdgeTests");
     private static final int NONE = GriefTram.NONE;
     private static final int LEAST = Integer.MIN_VALUE;
     private static final int GREATEST = Integer.MAX_VALUE;
-    private static final int[] FAR = {LEAST, LEAST + 1, -65536, -257, -100, 65536, 1 << 30, GREATEST - 1, GREATEST};
 
     public static void main(String[] args) {
         nothingAtFirst();
@@ -37,20 +34,6 @@ public final class CallEdgeTests {
         againLeavesImages();
         againTakesBackHowMany();
         CHECK.end();
-    }
-
-    /** The answers that are due at low, low + 1, .. and 'none' at all others. */
-    private static void stretch(String call, IntUnaryOperator ask, int low, int high, int none, int... due) {
-        for (int what = low; what <= high; what++) {
-            int k = what - low;
-            CHECK.due(call + " " + what, ask.applyAsInt(what), k < due.length ? due[k] : none);
-        }
-    }
-
-    private static void far(String call, IntUnaryOperator ask, int none) {
-        for (int what : FAR) {
-            CHECK.due(call + " " + what, ask.applyAsInt(what), none);
-        }
     }
 
     // ---- promise 1
@@ -122,7 +105,7 @@ public final class CallEdgeTests {
         GriefTram x = new GriefTram();
         x.feed(numbers[0], numbers[1], numbers[2], numbers[3], numbers[4]);
         CHECK.due("hill 1;hill2;hill 3;", x.text(0, NONE), 0);
-        stretch("line 0", what -> x.line(0, what), 10, 19, NONE, 1, 2, 3);
+        CHECK.stretch("line 0", what -> x.line(0, what), 10, 19, NONE, 1, 2, 3);
         // a stray byte of 128 and more in each of the four places of each of the five numbers
         for (int at = 0; at < 20; at++) {
             int[] fed = {0x20202020, 0x20202020, 0x20202020, 0x20202020, 0x20202020};
@@ -163,7 +146,7 @@ public final class CallEdgeTests {
         x.feed(0, 0, 0, 0, 0);
         CHECK.due("21", x.end(21), NONE);
         CHECK.due("-1", x.end(-1), NONE);
-        far("end", x::end, NONE);
+        CHECK.far("end", x::end, NONE);
         CHECK.due("a refused end leaves the tape", x.feed(0, 0, 0, 0, 0), 40);
     }
 
@@ -306,9 +289,9 @@ public final class CallEdgeTests {
         CHECK.by("NONE for another what");
         GriefTram x = new GriefTram();
         Check.tell(x, 0, "    !");
-        stretch("fault", x::fault, -20, -1, NONE);
-        stretch("fault", x::fault, 0, 100, NONE, 1, 4);
-        far("fault", x::fault, NONE);
+        CHECK.stretch("fault", x::fault, -20, -1, NONE);
+        CHECK.stretch("fault", x::fault, 0, 100, NONE, 1, 4);
+        CHECK.far("fault", x::fault, NONE);
     }
 
     // ---- promises 6, 7
@@ -317,29 +300,29 @@ public final class CallEdgeTests {
         CHECK.by("10 + k: a HILL, 20 + r: KIND, 30 + r: OUNCES of a RIDER, 40 + k: WEAR .. NONE .. for another what");
         GriefTram x = Check.withLine("hill 11;hill 12;seats 3;rider love 5;rider shame 7;rider false 9;wear loss 2;"
             + "wear love 3;wear shame 4;wear false 5;fare 1 21;fare 8 28;");
-        stretch("line 0", what -> x.line(0, what), -30, -1, NONE);
-        stretch("line 0", what -> x.line(0, what), 0, 9, NONE, 2, 3, 3);
-        stretch("line 0", what -> x.line(0, what), 10, 19, NONE, 11, 12);
-        stretch("line 0", what -> x.line(0, what), 20, 29, NONE, 1, 2, 3);
-        stretch("line 0", what -> x.line(0, what), 30, 39, NONE, 5, 7, 9);
-        stretch("line 0", what -> x.line(0, what), 40, 49, NONE, 2, 3, 4, 5);
-        stretch("line 0", what -> x.line(0, what), 50, 59, NONE, NONE, 21, 2, 3, 4, 5, 6, 7, 28);
-        stretch("line 0", what -> x.line(0, what), 60, 69, NONE, 10, 3, 0);
-        stretch("line 0", what -> x.line(0, what), 70, 400, NONE);
-        far("line 0", what -> x.line(0, what), NONE);
+        CHECK.stretch("line 0", what -> x.line(0, what), -30, -1, NONE);
+        CHECK.stretch("line 0", what -> x.line(0, what), 0, 9, NONE, 2, 3, 3);
+        CHECK.stretch("line 0", what -> x.line(0, what), 10, 19, NONE, 11, 12);
+        CHECK.stretch("line 0", what -> x.line(0, what), 20, 29, NONE, 1, 2, 3);
+        CHECK.stretch("line 0", what -> x.line(0, what), 30, 39, NONE, 5, 7, 9);
+        CHECK.stretch("line 0", what -> x.line(0, what), 40, 49, NONE, 2, 3, 4, 5);
+        CHECK.stretch("line 0", what -> x.line(0, what), 50, 59, NONE, NONE, 21, 2, 3, 4, 5, 6, 7, 28);
+        CHECK.stretch("line 0", what -> x.line(0, what), 60, 69, NONE, 10, 3, 0);
+        CHECK.stretch("line 0", what -> x.line(0, what), 70, 400, NONE);
+        CHECK.far("line 0", what -> x.line(0, what), NONE);
     }
 
     private static void lineOfFewAndMany() {
         CHECK.by("NONE: there is none such (of any)");
         GriefTram x = Check.withLine("");
-        stretch("an empty line", what -> x.line(0, what), 0, 9, NONE, 0, 4, 0);
-        stretch("an empty line", what -> x.line(0, what), 10, 39, NONE);
-        stretch("an empty line", what -> x.line(0, what), 60, 69, NONE);
+        CHECK.stretch("an empty line", what -> x.line(0, what), 0, 9, NONE, 0, 4, 0);
+        CHECK.stretch("an empty line", what -> x.line(0, what), 10, 39, NONE);
+        CHECK.stretch("an empty line", what -> x.line(0, what), 60, 69, NONE);
         GriefTram y = Check.withLine("hill 9;".repeat(8) + "rider love 6;".repeat(8));
-        stretch("a full line", what -> y.line(0, what), 10, 19, NONE, 9, 9, 9, 9, 9, 9, 9, 9);
-        stretch("a full line", what -> y.line(0, what), 20, 29, NONE, 1, 1, 1, 1, 1, 1, 1, 1);
-        stretch("a full line", what -> y.line(0, what), 30, 39, NONE, 6, 6, 6, 6, 6, 6, 6, 6);
-        stretch("a full line", what -> y.line(0, what), 60, 69, NONE, 12, 12, 12, 12, 12, 12, 12, 12);
+        CHECK.stretch("a full line", what -> y.line(0, what), 10, 19, NONE, 9, 9, 9, 9, 9, 9, 9, 9);
+        CHECK.stretch("a full line", what -> y.line(0, what), 20, 29, NONE, 1, 1, 1, 1, 1, 1, 1, 1);
+        CHECK.stretch("a full line", what -> y.line(0, what), 30, 39, NONE, 6, 6, 6, 6, 6, 6, 6, 6);
+        CHECK.stretch("a full line", what -> y.line(0, what), 60, 69, NONE, 12, 12, 12, 12, 12, 12, 12, 12);
     }
 
     private static void lineThatIsNotThere() {
@@ -352,7 +335,7 @@ public final class CallEdgeTests {
             for (int line = -2; line <= 3; line++) {
                 CHECK.due(many + " lines, line " + line, x.line(line, 1), line >= 0 && line < many ? 4 : NONE);
             }
-            far("line", line -> x.line(line, 1), NONE);
+            CHECK.far("line", line -> x.line(line, 1), NONE);
         }
     }
 
@@ -360,9 +343,9 @@ public final class CallEdgeTests {
         CHECK.by("How many DEEDS (k NONE, what 0)");
         GriefTram x = Check.with(Check.RIDE, "go;go;go;");
         CHECK.due("how many", x.deed(0, NONE, 0), 3);
-        stretch("deed NONE", what -> x.deed(0, NONE, what), -9, -1, -2);
-        stretch("deed NONE", what -> x.deed(0, NONE, what), 0, 20, -2, 3);
-        far("deed NONE", what -> x.deed(0, NONE, what), -2);
+        CHECK.stretch("deed NONE", what -> x.deed(0, NONE, what), -9, -1, -2);
+        CHECK.stretch("deed NONE", what -> x.deed(0, NONE, what), 0, 20, -2, 3);
+        CHECK.far("deed NONE", what -> x.deed(0, NONE, what), -2);
         CHECK.due("of an empty ride", Check.with(Check.RIDE, "").deed(0, NONE, 0), 0);
     }
 
@@ -373,18 +356,18 @@ public final class CallEdgeTests {
             {7, NONE, NONE}};
         for (int i = 0; i < due.length; i++) {
             int k = i;
-            stretch("deed " + k, what -> x.deed(0, k, what), -9, -1, -2);
-            stretch("deed " + k, what -> x.deed(0, k, what), 0, 20, -2, due[k]);
-            far("deed " + k, what -> x.deed(0, k, what), -2);
+            CHECK.stretch("deed " + k, what -> x.deed(0, k, what), -9, -1, -2);
+            CHECK.stretch("deed " + k, what -> x.deed(0, k, what), 0, 20, -2, due[k]);
+            CHECK.far("deed " + k, what -> x.deed(0, k, what), -2);
         }
     }
 
     private static void deedThatIsNotThere() {
         CHECK.by("-2: there is none such (of either), or for another what");
         GriefTram x = Check.with(Check.RIDE, "go;share;");
-        stretch("deed of k", k -> x.deed(0, k, 0), -9, -2, -2);
-        stretch("deed of k", k -> x.deed(0, k, 0), 0, 50, -2, 5, 6);
-        far("deed of k", k -> x.deed(0, k, 0), -2);
+        CHECK.stretch("deed of k", k -> x.deed(0, k, 0), -9, -2, -2);
+        CHECK.stretch("deed of k", k -> x.deed(0, k, 0), 0, 50, -2, 5, 6);
+        CHECK.far("deed of k", k -> x.deed(0, k, 0), -2);
         CHECK.due("deed 0 of an empty ride", Check.with(Check.RIDE, "").deed(0, 0, 0), -2);
         for (int ride : new int[] {-1, 1, 2, LEAST, GREATEST}) {
             CHECK.due("ride " + ride, x.deed(ride, 0, 0), -2);
@@ -405,9 +388,9 @@ public final class CallEdgeTests {
                 x.text(sort, NONE);
             }
         }
-        stretch("count", x::count, -9, -1, -2);
-        stretch("count", x::count, 0, 20, -2, 1, 2, 2, 1);
-        far("count", x::count, -2);
+        CHECK.stretch("count", x::count, -9, -1, -2);
+        CHECK.stretch("count", x::count, 0, 20, -2, 1, 2, 2, 1);
+        CHECK.far("count", x::count, -2);
     }
 
     private static void imageOfAnotherNumber() {
@@ -416,7 +399,7 @@ public final class CallEdgeTests {
         for (int k = -4; k <= 6; k++) {
             CHECK.due("image " + k, x.image(k), k >= 0 && k <= 2);
         }
-        for (int k : FAR) {
+        for (int k : Check.FAR) {
             CHECK.due("image " + k, x.image(k), false);
         }
     }
@@ -499,7 +482,7 @@ public final class CallEdgeTests {
                 CHECK.due("again " + k, x.again(k), false);
             }
         }
-        for (int k : FAR) {
+        for (int k : Check.FAR) {
             CHECK.due("again " + k, x.again(k), false);
         }
         CHECK.due("a refused again leaves what is told", x.line(0, 10), 5);

@@ -1,4 +1,5 @@
 import java.nio.charset.StandardCharsets;
+import java.util.function.IntUnaryOperator;
 
 /** What the tests share: feeding texts, and comparing an answer with the one that is due. */
 final class Check {
@@ -6,6 +7,9 @@ final class Check {
     static final int RIDE = 1;
     static final int FLOW = 2;
     static final int SIGHT = 3;
+    /** Numbers far from all that is ever there. */
+    static final int[] FAR = {Integer.MIN_VALUE, Integer.MIN_VALUE + 1, -65536, -257, -100, 65536, 1 << 30,
+        Integer.MAX_VALUE - 1, Integer.MAX_VALUE};
 
     private final String name;
     private String sentence = "";
@@ -33,6 +37,20 @@ final class Check {
 
     void due(String call, boolean got, boolean want) {
         due(call, got ? 1 : 0, want ? 1 : 0);
+    }
+
+    /** From low up to high: first the answers that are due, then 'none'. */
+    void stretch(String call, IntUnaryOperator ask, int low, int high, int none, int... due) {
+        for (int n = low; n <= high; n++) {
+            int k = n - low;
+            due(call + " " + n, ask.applyAsInt(n), k < due.length ? due[k] : none);
+        }
+    }
+
+    void far(String call, IntUnaryOperator ask, int none) {
+        for (int n : FAR) {
+            due(call + " " + n, ask.applyAsInt(n), none);
+        }
     }
 
     void end() {
