@@ -12,6 +12,7 @@ public final class CallEdgeTests {
         feedRefusesMoreThanSixHundred();
         feedPutsTheHighestByteFirst();
         endCutsTheTape();
+        endLeavesNothingBehind();
         endRefuses();
         textAnswersItsNumber();
         textInThePlaceOfOne();
@@ -41,13 +42,13 @@ public final class CallEdgeTests {
     private static void nothingAtFirst() {
         CHECK.by("No LINES, RIDES, FLOWS, SIGHTS");
         GriefTram x = new GriefTram();
+        CHECK.due("an empty tape", x.end(1), NONE);
+        CHECK.due("no fault", x.fault(0), 0);
+        CHECK.due("no place", x.fault(1), NONE);
         for (int sort = 0; sort < 4; sort++) {
             CHECK.due("count " + sort, x.count(sort), 0);
             CHECK.due("in the place of 0 of " + sort, x.text(sort, 0), -2);
         }
-        CHECK.due("an empty tape", x.end(1), NONE);
-        CHECK.due("no fault", x.fault(0), 0);
-        CHECK.due("no place", x.fault(1), NONE);
         long[] none = {x.line(0, 0), x.stop(0, 0), x.comes(0, 0, 0), x.up(0, 3), x.rounds(0, 0), x.calm(0, 1, 0, 0),
             x.couples(0, 3, false), x.flow(0, 0), x.leaves(0, 0), x.fare(0, 0, 1, 0), x.route(0, 0), x.plea(0, 0),
             x.spared(0, 0), x.against(0, 0), x.byTurns(0, 0, 0), x.news(0, 0), x.slack(0, 0, false), x.orders(0, 0),
@@ -135,6 +136,25 @@ public final class CallEdgeTests {
         CHECK.due("the first seven, then further ones", y.text(0, NONE), 0);
         CHECK.due("the first", y.line(0, 10), 5);
         CHECK.due("the further one", y.line(0, 11), 6);
+    }
+
+    private static void endLeavesNothingBehind() {
+        CHECK.by("its first n bytes alone");
+        String[] texts = {"hill 5;seats 6;", "hill 55;hill55", "rider loss 60; ", "   hill   5   ;"};
+        for (String text : texts) {
+            for (int n = 0; n <= text.length(); n++) {
+                GriefTram fresh = new GriefTram();
+                int due = Check.tell(fresh, 0, text.substring(0, n));
+                for (char behind : new char[] {'l', 's', '5', '0', ';', ' ', '\n', '!', '\u00e9'}) {
+                    GriefTram x = new GriefTram();
+                    Check.tape(x, text.substring(0, n) + String.valueOf(behind).repeat(20));
+                    x.end(n);
+                    CHECK.due(text + " cut at " + n + " ahead of " + behind, x.text(0, NONE), due);
+                    CHECK.due("its fault", x.fault(0), fresh.fault(0));
+                    CHECK.due("its place", x.fault(1), fresh.fault(1));
+                }
+            }
+        }
     }
 
     private static void endRefuses() {
@@ -408,31 +428,58 @@ public final class CallEdgeTests {
         CHECK.by("all that is told .., as it is now");
         GriefTram x = new GriefTram();
         CHECK.due("an image of nothing", x.image(0), true);
-        tellAll(x, 3, 1);
+        tellAll(x, NONE, 3);
         x.image(1);
-        tellAll(x, 5, 2);
+        tellAll(x, NONE, 5);
+        tellAll(x, 0, 4);
         x.image(2);
-        int[] due = {0, 1, 2};
-        for (int k : new int[] {1, 0, 2, 1, 2, 0}) {
+        tellAll(x, 0, 6);
+        tellAll(x, 1, 7);
+        isTold(x, 0, 6);
+        isTold(x, 1, 7);
+        for (int k : new int[] {1, 0, 2, 1, 2, 0, 2}) {
             CHECK.due("again " + k, x.again(k), true);
             for (int sort = 0; sort < 4; sort++) {
-                CHECK.due("image " + k + " has so many of " + sort, x.count(sort), due[k]);
+                CHECK.due("image " + k + " has so many of " + sort, x.count(sort), k);
             }
-            int hill = k == 2 ? 5 : 3;
-            CHECK.due("its line", x.line(0, 10), k == 0 ? NONE : 3);
-            CHECK.due("its last line", x.line(due[k] - 1, 10), k == 0 ? NONE : hill);
-            CHECK.due("its last ride", x.deed(due[k] - 1, 0, 1), k == 0 ? -2 : hill);
-            CHECK.due("its last flow", x.flow(due[k] - 1, 0), k == 0 ? NONE : hill);
-            CHECK.due("its last sight", x.fact(due[k] - 1, 0, 2), k == 0 ? -2 : hill);
+            if (k == 1) {
+                isTold(x, 0, 3);
+            }
+            if (k == 2) {
+                isTold(x, 0, 4);
+                isTold(x, 1, 5);
+            }
         }
     }
 
-    private static void tellAll(GriefTram x, int n, int expected) {
-        Check.tell(x, 0, "hill " + n + ";");
-        Check.tell(x, 1, "tell " + n + ";");
-        Check.tell(x, 2, "need " + n + ";");
-        Check.tell(x, 3, "climbed 1 " + n + ";");
-        CHECK.due("told", x.count(3), expected);
+    /** One of each sort, by which n was told. */
+    private static void tellAll(GriefTram x, int at, int n) {
+        Check.tellAt(x, 0, "hill " + n + ";seats " + (n % 6 + 1) + ";rider love " + n + ";wear loss " + n + ";fare 3 " + n + ";", at);
+        Check.tellAt(x, 1, "board " + n + " " + n % 5 + ";tell " + n + ";", at);
+        Check.tellAt(x, 2, "need " + n + ";come " + n + " " + n + ";", at);
+        Check.tellAt(x, 3, "many " + (1 + n % 2) + ";climbed 1 " + n + ";", at);
+    }
+
+    private static void isTold(GriefTram x, int number, int n) {
+        int[][] line = {{10, n}, {1, n % 6 + 1}, {21, NONE}, {20, 1}, {30, n}, {40, n}, {53, n}};
+        for (int[] row : line) {
+            CHECK.due("line " + number + " " + row[0], x.line(number, row[0]), row[1]);
+        }
+        CHECK.due("deeds of ride " + number, x.deed(number, NONE, 0), 2);
+        CHECK.due("rider of ride " + number, x.deed(number, 0, 1), n);
+        CHECK.due("seat of ride " + number, x.deed(number, 0, 2), n % 5);
+        CHECK.due("deed 1 of ride " + number, x.deed(number, 1, 0), 3);
+        CHECK.due("need of flow " + number, x.flow(number, 0), n);
+        CHECK.due("what comes of flow " + number, x.flow(number, 10 + n), n);
+        CHECK.due("all that comes of flow " + number, x.flow(number, 4), n);
+        CHECK.due("strangers of sight " + number, x.fact(number, NONE, 0), 1 + n % 2);
+        CHECK.due("fact of sight " + number, x.fact(number, 0, 0), 1);
+        CHECK.due("set of sight " + number, x.fact(number, 0, 1), 1);
+        CHECK.due("hill of sight " + number, x.fact(number, 0, 2), n);
+        CHECK.due("fits of sight " + number, x.fits(number, 0), (10 - n) * (n % 2 == 0 ? 1 : 10));
+        CHECK.due("ask of sight " + number, x.fits(number, 1), n % 2 == 0 ? 40 + (10 + n) / 2 : 85);
+        CHECK.due("least of sight " + number, x.fits(number, 10), n);
+        CHECK.due("most of sight " + number, x.fits(number, 20), 9);
     }
 
     private static void imageHasTapeAndFault() {

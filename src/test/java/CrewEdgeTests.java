@@ -197,6 +197,7 @@ public final class CrewEdgeTests {
         sets("seats 6;hill 0;" + "rider loss 1;".repeat(8), 247, NONE, NONE);
         sets("seats 1;hill 0;" + "rider loss 1;".repeat(8), 9, NONE, NONE);
         sets("", 1, NONE, NONE);
+        sets("hill 0;".repeat(8) + "rider loss 0;", 2, NONE, NONE);
         sets("rider loss 0;", 2, NONE, NONE);
         sets("hill 1;", 0, 0, 1);
         sets("hill 1;rider loss 1;", 1, 0, 1);

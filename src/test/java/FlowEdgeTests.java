@@ -141,7 +141,9 @@ public final class FlowEdgeTests {
         CHECK.by("RUSH: the hour at which most come, of several the first");
         CHECK.due("none come", flowOf("").flow(0, 1), 0);
         CHECK.due("at 0", flowOf("come 0 1;").flow(0, 1), 0);
-        CHECK.due("at 23", flowOf("come 23 1;").flow(0, 1), 23);
+        for (int h = 1; h < HOURS; h++) {
+            CHECK.due("at " + h, flowOf("come 0 1;come " + h + " 2;").flow(0, 1), h);
+        }
         CHECK.due("of two", flowOf("come 5 9;come 4 9;come 3 8;").flow(0, 1), 4);
         CHECK.due("of all", flowOf(atAll(99)).flow(0, 1), 0);
         CHECK.due("of all but the last", flowOf(atAll(98) + "come 23 99;").flow(0, 1), 23);
@@ -177,6 +179,8 @@ public final class FlowEdgeTests {
         CHECK.due("of three", flowOf("come 3 1;come 4 1;come 5 1;").flow(0, 5), 4);
         CHECK.due("of all", flowOf(atAll(99)).flow(0, 5), 11);
         CHECK.due("at 0", flowOf("come 0 1;come 5 1;").flow(0, 5), 0);
+        CHECK.due("not at 0", flowOf("come 0 3;come 9 5;").flow(0, 5), 9);
+        CHECK.due("at 23", flowOf("come 22 3;come 23 5;").flow(0, 5), 23);
     }
 
     private static void steadyWhereverTheyBegin() {

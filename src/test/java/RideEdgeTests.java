@@ -389,6 +389,9 @@ public final class RideEdgeTests {
         fare(four + "fare 1 1;fare 2 3;fare 3 9;fare 4 9;", 0, 4, 4, 4, 4);
         fare(four + "fare 1 0;fare 2 0;fare 3 0;fare 4 0;", 0, 4, 0, 1, 4);
         fare(four + "fare 1 0;fare 2 0;fare 3 0;fare 4 1;", 0, 4, 0, 2, 4);
+        fare(four + "fare 1 1;fare 2 3;fare 3 9;fare 4 9;", 2, 3, 1, 1, 3);
+        fare(four + "fare 1 1;fare 2 3;fare 3 9;fare 4 9;", 1, 3, 2, 2, 3);
+        fare(four + "fare 1 1;fare 2 3;fare 3 9;fare 4 9;", 1, 4, 3, 3, 4);
     }
 
     private static void loopThatOneOrFurther() {

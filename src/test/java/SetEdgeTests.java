@@ -137,6 +137,8 @@ public final class SetEdgeTests {
         up("", 0, 0, 0, 0, 0);
         up("hill 0;", 0, 0, 0, 0, 0);
         up("hill 0;rider loss 0;rider loss 7;", 0, 0, 0, 2, 0);
+        up("hill 0;rider loss 7;", 0, 0, 0, 1, 0);
+        up("rider loss 7;", 0, 0, 0, 1, 0);
         up("hill 1;", NONE, NONE, NONE, 0, 0);
         up("hill 1;rider loss 0;rider false 60;", NONE, NONE, NONE, 0, 3);
     }

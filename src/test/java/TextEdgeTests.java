@@ -252,6 +252,10 @@ public final class TextEdgeTests {
         faulty(0, " ".repeat(593) + "hill 9;", 0, NONE);
         faulty(0, " ".repeat(594) + "hill 9", 1, 600);
         faulty(0, " ".repeat(599) + "!", 1, 599);
+        faulty(0, " ".repeat(596) + "hill", 1, 600);
+        faulty(0, " ".repeat(590) + "rider loss", 1, 600);
+        faulty(0, " ".repeat(599) + "h", 1, 599);
+        faulty(0, " ".repeat(599) + "5", 1, 599);
         faulty(3, "climbed 4 1;" + " ".repeat(588), 4, 600);
     }
 
@@ -363,6 +367,7 @@ public final class TextEdgeTests {
                 for (int sort = 0; sort < 4; sort++) {
                     faulty(sort, part, sort == of ? 0 : 1, sort == of ? NONE : 0);
                 }
+                misspelt(of, part);
                 faulty(of, part.substring(1), 1, 0);
                 faulty(of, "x" + part, 1, 0);
                 faulty(of, part.toUpperCase(), 1, 0);
@@ -371,9 +376,20 @@ public final class TextEdgeTests {
         for (String kind : KINDS) {
             faulty(0, kind + " 1;", 1, 0);
             faulty(0, "hill " + kind + " 1;", 1, 5);
+            for (int at = 0; at < kind.length(); at++) {
+                faulty(0, "rider " + kind.substring(0, at) + "x" + kind.substring(at + 1) + " 1;", 1, 6);
+            }
             faulty(0, "rider " + kind.substring(1) + " 1;", 1, 6);
             faulty(0, "rider " + kind + "s 1;", 1, 6);
             faulty(0, "wear " + kind.substring(0, kind.length() - 1) + " 1;", 1, 5);
+        }
+    }
+
+    /** Another letter in the place of each of the first word's. */
+    private static void misspelt(int sort, String part) {
+        for (int at = 0; at < part.length() && isLetter(part.charAt(at)); at++) {
+            faulty(sort, part.substring(0, at) + "x" + part.substring(at + 1), 1, 0);
+            faulty(sort, part.substring(0, at) + part.substring(at + 1), 1, 0);
         }
     }
 
