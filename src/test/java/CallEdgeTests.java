@@ -429,9 +429,11 @@ public final class CallEdgeTests {
         GriefTram x = new GriefTram();
         CHECK.due("an image of nothing", x.image(0), true);
         tellAll(x, NONE, 3);
+        isTold(x, 0, 3);
         x.image(1);
         tellAll(x, NONE, 5);
         tellAll(x, 0, 4);
+        isTold(x, 1, 5);
         x.image(2);
         tellAll(x, 0, 6);
         tellAll(x, 1, 7);
@@ -457,7 +459,7 @@ public final class CallEdgeTests {
         Check.tellAt(x, 0, "hill " + n + ";seats " + (n % 6 + 1) + ";rider love " + n + ";wear loss " + n + ";fare 3 " + n + ";", at);
         Check.tellAt(x, 1, "board " + n + " " + n % 5 + ";tell " + n + ";", at);
         Check.tellAt(x, 2, "need " + n + ";come " + n + " " + n + ";", at);
-        Check.tellAt(x, 3, "many " + (1 + n % 2) + ";climbed 1 " + n + ";", at);
+        Check.tellAt(x, 3, "many " + (1 + n % 2) + ";climbed 1 " + n + ";stalled 1 " + (n + 2) + ";", at);
     }
 
     private static void isTold(GriefTram x, int number, int n) {
@@ -473,13 +475,15 @@ public final class CallEdgeTests {
         CHECK.due("what comes of flow " + number, x.flow(number, 10 + n), n);
         CHECK.due("all that comes of flow " + number, x.flow(number, 4), n);
         CHECK.due("strangers of sight " + number, x.fact(number, NONE, 0), 1 + n % 2);
-        CHECK.due("fact of sight " + number, x.fact(number, 0, 0), 1);
+        CHECK.due("facts of sight " + number, x.fact(number, NONE, 1), 2);
+        CHECK.due("fact 0 of sight " + number, x.fact(number, 0, 0), 1);
+        CHECK.due("fact 1 of sight " + number, x.fact(number, 1, 0), 0);
         CHECK.due("set of sight " + number, x.fact(number, 0, 1), 1);
         CHECK.due("hill of sight " + number, x.fact(number, 0, 2), n);
-        CHECK.due("fits of sight " + number, x.fits(number, 0), (10 - n) * (n % 2 == 0 ? 1 : 10));
-        CHECK.due("ask of sight " + number, x.fits(number, 1), n % 2 == 0 ? 40 + (10 + n) / 2 : 85);
+        CHECK.due("fits of sight " + number, x.fits(number, 0), n % 2 == 0 ? 2 : 20);
+        CHECK.due("ask of sight " + number, x.fits(number, 1), 41 + n);
         CHECK.due("least of sight " + number, x.fits(number, 10), n);
-        CHECK.due("most of sight " + number, x.fits(number, 20), 9);
+        CHECK.due("most of sight " + number, x.fits(number, 20), n + 1);
     }
 
     private static void imageHasTapeAndFault() {
