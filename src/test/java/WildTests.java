@@ -72,7 +72,8 @@ public final class WildTests {
         }
     }
 
-    private static long call(GriefTram x, int call, int[] n) {
+    /** Each question and deed by a number, so that any of them can be drawn. */
+    static long call(GriefTram x, int call, int[] n) {
         boolean yes = n[4] % 2 == 0;
         switch (call) {
             case 0: return x.feed(n[0], n[1], n[2], n[3], n[4]);
