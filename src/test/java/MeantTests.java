@@ -12,7 +12,8 @@ public final class MeantTests {
     private static final String[] LINES = {
         "hill 7;hill 3;hill 9;seats 3;rider loss 9;rider love 4;rider shame 12;rider false 8;rider loss 6;wear love 2;fare 2 1;",
         "hill 2;hill 8;seats 2;rider love 8;rider loss 5;rider loss 2;rider shame 3;wear loss 0;fare 1 4;fare 2 3;",
-        "hill 0;hill 0;hill 0;hill 0;rider false 1;rider loss 1;rider loss 4;rider love 2;seats 1;"};
+        "hill 0;hill 0;hill 0;hill 0;rider false 1;rider loss 1;rider loss 4;rider love 2;seats 1;",
+        "hill 0;rider loss 0;rider love 0;rider shame 0;rider false 0;"};
     private static final String[] RIDES = {
         "board 0 0;board 1 1;go;share;tell 3;go;off 0;go;back;go;",
         "tell 1;board 2 1;board 0 0;share;share;go;go;joke 2;go;move 2 0;",
@@ -33,6 +34,10 @@ public final class MeantTests {
         pairs(Check.SIGHT, SIGHTS, SIGHT_QUESTIONS);
         pairs(Check.RIDE, RIDES, RIDE_QUESTIONS);
         ridesOfLines();
+        CHECK.by("nothing is told by asking");
+        anotherAskedAhead(Check.LINE, LINES, LINE_QUESTIONS);
+        anotherAskedAhead(Check.FLOW, FLOWS, FLOW_QUESTIONS);
+        anotherAskedAhead(Check.SIGHT, SIGHTS, SIGHT_QUESTIONS);
         CHECK.end();
     }
 
@@ -117,6 +122,20 @@ public final class MeantTests {
         CHECK.due(call + ", the second behind a fault", question.ask(x, 1), dueOfOther);
         Check.tellAt(x, sort, one, 1);
         CHECK.due(call + ", the second told anew", question.ask(x, 1), due);
+    }
+
+    /** Rows that two questions share must not carry anything from one to the other. */
+    private static void anotherAskedAhead(int sort, String[] texts, List<Question> questions) {
+        for (String text : texts) {
+            for (int q = 0; q < questions.size(); q++) {
+                long due = questions.get(q).ask(Check.with(sort, text), 0);
+                for (int ahead = 0; ahead < questions.size(); ahead++) {
+                    GriefTram x = Check.with(sort, text);
+                    questions.get(ahead).ask(x, 0);
+                    CHECK.due("question " + q + " behind " + ahead + " of " + text, questions.get(q).ask(x, 0), due);
+                }
+            }
+        }
     }
 
     private static void ridesOfLines() {

@@ -294,6 +294,9 @@ public final class SetEdgeTests {
             CHECK.due(row[0] + " and " + row[1], x.couples(0, 3, false), row[2]);
             CHECK.due("one way", x.couples(0, 3, true), 1);
         }
+        GriefTram none = Check.withLine("rider loss 0;rider love 0;");
+        CHECK.due("ways of 0 and 0", none.couples(0, 3, true), 1);
+        CHECK.due("0 and 0 behind their ways", none.couples(0, 3, false), 0);
         GriefTram four = Check.withLine("rider loss 0;rider love 10;rider shame 20;rider false 30;");
         CHECK.due("0 30, 10 20", four.couples(0, 15, false), 15);
         CHECK.due("one way", four.couples(0, 15, true), 1);
